@@ -9,6 +9,7 @@ public final class BondAndLivesTest {
         accrues();
         addsAges();
         livesAndDeaths();
+        forgetsAges();
         livesInRange();
         premiums();
         reserves();
@@ -68,6 +69,8 @@ public final class BondAndLivesTest {
         AnnuityHouse house = new AnnuityHouse();
         CHECK.due(50L, "22: half", () -> house.accrued(100, 15, 30));
         CHECK.due(0L, "22: no days", () -> house.accrued(100, 0, 366));
+        CHECK.due(7L, "22: one day of one", () -> house.accrued(7, 1, 1));
+        CHECK.due(0L, "22: no coupon", () -> house.accrued(0, 1, 3));
         CHECK.due(100L, "22: all days", () -> house.accrued(100, 366, 366));
         CHECK.due(BILLION, "22: the greatest", () -> house.accrued(BILLION, 366, 366));
         CHECK.due(2L, "22: 2.5 to the even one", () -> house.accrued(5, 1, 2));
@@ -136,6 +139,21 @@ public final class BondAndLivesTest {
         CHECK.due(1800L, "25: a whole number by EXACT", () -> house.lifeWorth(0, 1000, 0));
         CHECK.due(100L, "26: a whole number by EXACT", () -> house.deathWorth(2, 110, 10000));
         CHECK.due(0L, "26: no money by EXACT", () -> house.deathWorth(0, 0, 19999));
+    }
+
+    private static void forgetsAges() {
+        AnnuityHouse house = houseOf(100, 60, 20);
+        house.clearLives();
+        house.live(50);
+        CHECK.due(1000L, "24: the ages before do not count", () -> house.lifeWorth(0, 1000, 0));
+        CHECK.due(1000L, "24: nobody is left behind the last age", () -> house.deathWorth(0, 1000, 0));
+        for (int age = 1; age < 30; age++) {
+            house.live(50);
+        }
+        CHECK.due(1000L, "26: 30 ages", () -> house.deathWorth(0, 1000, 0));
+        CHECK.due(30000L, "25: 30 ages", () -> house.lifeWorth(0, 1000, 0));
+        CHECK.due(833L, "26: the last of 30 ages", () -> house.deathWorth(29, 1000, 20000));
+        CHECK.due(967L, "28: 30 ages", () -> house.reserve(0, 29, 1000, 0, true));
     }
 
     private static void livesInRange() {

@@ -9,6 +9,7 @@ public final class LoanTest {
         fillsTheTable();
         makesHolidays();
         changesRates();
+        tellsInTheLastPeriods();
         paysEarly();
         endsAtOnce();
         roundsByTheWayOfThen();
@@ -134,6 +135,18 @@ public final class LoanTest {
         house.early(1, 375);
         CHECK.due(4, "15: change(2, 0)", () -> house.change(2, 0));
         row(house, 2, 375, 0, 125, 125, 250, 0, 125);
+    }
+
+    private static void tellsInTheLastPeriods() {
+        AnnuityHouse house = new AnnuityHouse();
+        house.lend(6000, 0, 60);
+        CHECK.due(60, "15: change(60, 10000)", () -> house.change(60, 10000));
+        CHECK.due(60, "16: early(60, 7)", () -> house.early(60, 7));
+        CHECK.due(true, "14: holiday(59)", () -> house.holiday(59));
+        row(house, 59, 200, 0, 0, 0, 200, 0, 100);
+        row(house, 60, 200, 20, 220, 200, 0, 10000, 220);
+        CHECK.due(60, "16: early(58, 100)", () -> house.early(58, 100));
+        row(house, 60, 100, 10, 110, 100, 0, 10000, 110);
     }
 
     private static void paysEarly() {

@@ -61,6 +61,8 @@ public final class SharesAndTaxesTest {
         // Nobody who has no weight gets a cent.
         parts(5, new int[] {0, 1, 0, 1}, 0, 3, 0, 2);
         parts(0, new int[] {1, 2}, 0, 0);
+        parts(5, new int[] {1}, 5);
+        parts(5, new int[] {0, 1, 0}, 0, 5, 0);
         parts(TRILLION, new int[] {1000000}, TRILLION);
         parts(TRILLION, new int[] {1000000, 1000000, 1000000}, 333333333334L, 333333333333L, 333333333333L);
         parts(11, new int[] {1, 1, 1, 1, 1, 1, 1, 1, 1, 1, 1, 1}, 1, 1, 1, 1, 1, 1, 1, 1, 1, 1, 1, 0);
@@ -97,13 +99,16 @@ public final class SharesAndTaxesTest {
             int due = i;
             CHECK.due(due, "32: step", () -> house.step(due * 10, 5));
         }
+        CHECK.due(30L, "34: 8 steps, 29 of 1000 and 170 of 5", () -> house.tax(200));
         CHECK.state("32: there are 8", () -> house.step(BILLION, 5));
         CHECK.range("32: out of range goes ahead of 8", () -> house.step(80, 5));
         CHECK.range("32: out of range goes ahead of 8", () -> house.step(81, 1001));
         CHECK.due(8, "33: clearSteps()", () -> house.clearSteps());
         CHECK.due(0, "33: clearSteps() again", () -> house.clearSteps());
         CHECK.due(0L, "34: no step, no tax", () -> house.tax(TRILLION));
-        CHECK.due(1, "32: the greatest", () -> house.step(BILLION, 1000));
+        CHECK.due(1, "32: a first step may begin sooner again", () -> house.step(0, 0));
+        CHECK.due(0L, "34: the steps before do not count", () -> house.tax(TRILLION));
+        CHECK.due(2, "32: the greatest", () -> house.step(BILLION, 1000));
         CHECK.range("32: nothing behind the greatest", () -> house.step(BILLION, 0));
     }
 
