@@ -105,17 +105,18 @@ public final class FaceTest {
 
     private static void source(String source) {
         String code = source.replaceAll("(?s)/\\*.*?\\*/", "").replaceAll("//.*", "").replaceAll("\"[^\"]*\"", "\"\"");
-        CHECK.due("[java.util.Arrays, java.util.NoSuchElementException]", "the imports", () -> all(code, "import ([\\w.*]+);"));
-        for (String no : new String[] {"->", "::", "\\btry\\b", "\\bcatch\\b", "\\bfinally\\b", "\\bsynchronized\\b", "\\bassert\\b",
-            "\\w+Exact\\(", "\\bpackage\\b", "\\bSystem\\b", "\\bRandom\\b", "\\bThread\\b", "BigInteger", "BigDecimal", "\\bvar\\b",
-            "\\b(equals|hashCode|toString)\\(", "java\\.(?!util\\.(Arrays|NoSuchElementException);)"}) {
+        CHECK.due("[]", "other imports", () -> all(code, "import (?!java\\.util\\.(?:Arrays|ArrayList|List|Iterator|NoSuchElementException);)([\\w.* ]+);"));
+        for (String no : new String[] {"->", "::", "\\bfinally\\b", "\\bsynchronized\\b", "\\bassert\\b",
+            "\\w+Exact\\(", "\\bpackage\\b", "\\bSystem\\b(?!\\.arraycopy)", "\\bRandom\\b", "\\bThread\\b", "BigInteger", "BigDecimal", "\\bvar\\b",
+            "java\\.(?!util\\.(Arrays|ArrayList|List|Iterator|NoSuchElementException);)"}) {
             CHECK.due("[]", "in the source", () -> all(code, "(" + no + ")"));
         }
-        CHECK.due("[IllegalArgumentException, IllegalStateException, NoSuchElementException]", "what is thrown",
-                () -> all(code, "throw new (\\w+)\\("));
+        CHECK.due("[]", "what is caught of what the machine throws", () -> all(code, "catch \\(.*?\\b(ArrayIndexOutOfBounds\\w+|NullPointer\\w+"
+                + "|ArithmeticException|ClassCast\\w+|NegativeArraySize\\w+|ArrayStore\\w+|IndexOutOfBounds\\w+|RuntimeException|Exception|Throwable|Error)\\b"));
+        CHECK.due("[]", "what else is thrown", () -> all(code, "throw new (?!(?:IllegalState|IllegalArgument|IndexOutOfBounds|Arithmetic"
+                + "|UnsupportedOperation|NoSuchElement|Runtime)Exception\\()(\\w+)"));
         CHECK.due("[]", "other throws", () -> all(code, "(throw (?!new )\\w+)"));
-        CHECK.due("[]", "other static functions of the library",
-                () -> all(code, "((?:Arrays|Math|Long|Integer)\\.(?!copyOf\\(|fill\\(|abs\\(|max\\(|min\\()\\w+)"));
+        CHECK.due("[]", "other static functions of Arrays", () -> all(code, "(Arrays\\.(?!copyOf\\(|copyOfRange\\(|fill\\()\\w+)"));
         CHECK.due(true, "no long method", () -> longestMethod(code) <= 60);
     }
 

@@ -49,6 +49,10 @@ final class Reference {
         return before;
     }
 
+    int mode() {
+        return mode;
+    }
+
     long round(long over, long under, int digits) {
         in(over, -1000000000000L, 1000000000000L);
         in(under, 1, 1000000000000L);
@@ -139,6 +143,10 @@ final class Reference {
     private boolean isYield(int points, int first) {
         int sign = worthOf(0, points).sign();
         return sign == 0 || sign == first;
+    }
+
+    int rowYield() {
+        return rowYield(false);
     }
 
     /** All rates are tried where isSlow; else it is halved by the rates, and some lesser rates are tried. */
@@ -293,6 +301,10 @@ final class Reference {
         in(many, 1, 40);
         in(points, 0, 20000);
         return bond(coupon, face, many, points).rounded(mode);
+    }
+
+    int bondYield(long coupon, long face, int many, long money) {
+        return bondYield(coupon, face, many, money, false);
     }
 
     int bondYield(long coupon, long face, int many, long money, boolean isSlow) {

@@ -1,13 +1,17 @@
-/** Many runs of 512 calls, right and wrong ones, answered by the house and by the reference alike. */
+/** Many long runs of calls, right and wrong ones, answered by the house and by the reference alike. */
 public final class ReferenceTest {
-    private static final int RUNS = 60;
-    private static final int CALLS = 512;
+    private static final int RUNS = 75;
+    /** A house is promised so many calls and no more. */
+    private static final int MOST_CALLS = 512;
+    /** Behind these, there are calls left to compare the states. */
+    private static final int CALLS_OF_RUN = 395;
     private static final int SLOW_RUNS = 6;
 
     private final Check check = new Check();
     private long seed;
     private AnnuityHouse house;
     private Reference reference;
+    private int calls = 0;
 
     private ReferenceTest(long seed) {
         this.seed = seed;
@@ -68,15 +72,24 @@ public final class ReferenceTest {
         return any(0, 2) == 0 ? any(1, 50) * 10000 : value(0, 1000000000);
     }
 
+    private void begin() {
+        house = new AnnuityHouse();
+        reference = new Reference();
+        calls = 0;
+    }
+
     private void both(String call, Check.Call mine, Check.Call due) {
+        calls++;
+        if (calls > MOST_CALLS) {
+            throw new IllegalStateException("too many calls of one house: " + call);
+        }
         check.due(Check.outcome(due), call, mine);
     }
 
     /** Kind 0 calls all alike, kind 1 rows and loans, kind 2 the others. */
     private void run(int kind) {
-        house = new AnnuityHouse();
-        reference = new Reference();
-        for (int call = 0; call < CALLS; call++) {
+        begin();
+        while (calls < CALLS_OF_RUN) {
             int which = (int) (kind == 0 ? any(0, 2) : kind);
             if (any(0, 25) == 0) {
                 settings();
@@ -97,12 +110,15 @@ public final class ReferenceTest {
             int period = p;
             both("amount(" + p + ")", () -> house.amount(period), () -> reference.amount(period));
         }
+        int shift = (int) any(0, 6);
         for (int p = 0; p <= 61; p++) {
-            for (int w = 0; w <= 6; w++) {
-                int period = p;
-                int what = w;
-                both("rowOf(" + p + ", " + w + ")", () -> house.rowOf(period, what), () -> reference.rowOf(period, what));
-            }
+            int period = p;
+            int what = (p + shift) % 7;
+            both("rowOf(" + p + ", " + what + ")", () -> house.rowOf(period, what), () -> reference.rowOf(period, what));
+        }
+        for (int w = 1; w <= 3; w++) {
+            int what = w;
+            both("total(" + w + ")", () -> house.total(what), () -> reference.total(what));
         }
         both("clearLives()", () -> house.clearLives(), () -> reference.clearLives());
         both("clearWeights()", () -> house.clearWeights(), () -> reference.clearWeights());
@@ -330,8 +346,7 @@ public final class ReferenceTest {
 
     /** The least rate of all, tried one by one, for short rows and bonds. */
     private void tryAllRates() {
-        house = new AnnuityHouse();
-        reference = new Reference();
+        begin();
         long money = any(1000, 9000);
         long back = any(1000, 3000);
         int many = (int) any(1, 6);
@@ -343,8 +358,7 @@ public final class ReferenceTest {
 
     /** The greatest numbers of all, by one way to round. */
     private void greatest(int mode) {
-        house = new AnnuityHouse();
-        reference = new Reference();
+        begin();
         both("setMode(" + mode + ")", () -> house.setMode(mode), () -> reference.setMode(mode));
         both("payMany of the greatest", () -> house.payMany(0, 41, 1000000000, 0), () -> reference.payMany(0, 41, 1000000000, 0));
         for (int points = 19999; points <= 20000; points++) {
