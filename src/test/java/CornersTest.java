@@ -41,11 +41,13 @@ public final class CornersTest {
     private static final String[] STATES = {
         "",
         """
-        pay(0, -1000); payMany(1, 3, 400, 1); lend(210, 10000, 4); holiday(2); change(3, 5000); early(1, 10); live(5); live(4); live(4); weigh(0); weigh(2); weigh(3)
+        pay(0, -1000); payMany(1, 3, 400, 1); lend(210, 10000, 4); holiday(2); change(3, 5000); early(1, 10); live(5); live(4)
+        live(4); weigh(0); weigh(2); weigh(3)
         step(0, 100); step(100, 500)
         """,
         """
-        payMany(0, 41, 10^9, 0); lend(10^9, 20000, 60); change(30, 19999); holiday(59); early(60, 5); 29 x live(10^6); live(5); 12 x weigh(10^6); step(0, 1)
+        payMany(0, 41, 10^9, 0); lend(10^9, 20000, 60); change(30, 19999); holiday(59); early(60, 5); 29 x live(10^6); live(5)
+        12 x weigh(10^6); step(0, 1)
         step(1, 999); step(2, 0); step(10, 5); step(100, 7); step(1000, 333); step(10000, 200); step(10^9-1, 1000)
         """,
         "pay(0, 10^9); payMany(1, 40, -10^8, 5); lend(210, 10000, 2); change(2, 20000); live(5); live(5); weigh(5); step(10^9, 0); setMode(EXACT)"};

@@ -137,7 +137,9 @@ final class RowEdges {
             payMany(3, 1, 7, 1) : 1; amount(4) : 0; clearRow(); payMany(0, 41, 1, 1) : 41; amount(0) : 1; amount(40) : 41
             clearRow(); payMany(0, 40, 1, 1) : 40; amount(39) : 40; amount(40) : 0
             """);
-        edges.of(6, "`amount`", "payMany(0, 2, 10^9, 0) : 2; amount(1) : 10^9; payMany(2, 2, -10^9, 0) : 4; amount(3) : -10^9; payMany(4, 2, 0, 0) : 4");
+        edges.of(6, "`amount`", """
+            payMany(0, 2, 10^9, 0) : 2; amount(1) : 10^9; payMany(2, 2, -10^9, 0) : 4; amount(3) : -10^9; payMany(4, 2, 0, 0) : 4
+            """);
         edges.of(6, "`step`", """
             payMany(0, 41, 0, 10^6) : 40; amount(1) : 10^6; amount(40) : 40000000; clearRow() : 40
             payMany(0, 41, 0, -10^6) : 40; amount(1) : -10^6; amount(40) : -40000000
@@ -153,7 +155,8 @@ final class RowEdges {
             payMany(-1, 1, 1, 0) : IllegalArgument; payMany(41, 1, 1, 0) : IllegalArgument; payMany(-1, 41, 1, 0) : IllegalArgument
             payMany(int.MAX, 1, 1, 0) : IllegalArgument; payMany(int.MIN, 1, 1, 0) : IllegalArgument
             payMany(0, 0, 1, 0) : IllegalArgument; payMany(0, 42, 1, 0) : IllegalArgument; payMany(5, -1, 1, 0) : IllegalArgument
-            payMany(0, int.MAX, 1, 0) : IllegalArgument; payMany(40, int.MAX, 1, 0) : IllegalArgument; payMany(0, int.MIN, 1, 0) : IllegalArgument
+            payMany(0, int.MAX, 1, 0) : IllegalArgument; payMany(40, int.MAX, 1, 0) : IllegalArgument
+            payMany(0, int.MIN, 1, 0) : IllegalArgument
             payMany(0, 1, 10^9+1, 0) : IllegalArgument; payMany(0, 1, -10^9-1, 0) : IllegalArgument
             payMany(0, 1, long.MAX, 0) : IllegalArgument; payMany(0, 1, long.MIN, 0) : IllegalArgument
             payMany(0, 1, 1, 10^6+1) : IllegalArgument; payMany(0, 1, 1, -10^6-1) : IllegalArgument
@@ -208,7 +211,8 @@ final class RowEdges {
             """);
         edges.of(9, "`period`", """
             pay(40, 11000); pay(0, 10000); worth(40, 0) : 21000; worth(39, 10000) : 421448; worth(1, 10000) : 11267; worth(0, 10000) : 10243
-            clearRow(); pay(40, 12); worth(39, 20000) : 10; worth(40, 20000) : 12; clearRow(); pay(0, 10); worth(0, 20000) : 10; worth(1, 20000) : 12
+            clearRow(); pay(40, 12); worth(39, 20000) : 10; worth(40, 20000) : 12; clearRow(); pay(0, 10); worth(0, 20000) : 10
+            worth(1, 20000) : 12
             """);
         edges.of(9, "`points`", """
             pay(3, 100000); worth(4, 0) : 100000; worth(4, 1) : 100001; worth(4, 19999) : 119999; worth(4, 20000) : 120000
@@ -230,11 +234,13 @@ final class RowEdges {
 
     private static void roundsWorths(Edges edges) {
         edges.of(9, "Returns this, rounded", """
-            pay(0, 5); each worth(1, 10000) : 6 5 6 5 6 5 6 IllegalState; pay(0, 10); each worth(1, 10000) : 17 16 17 16 17 16 16 IllegalState
+            pay(0, 5); each worth(1, 10000) : 6 5 6 5 6 5 6 IllegalState; pay(0, 10)
+            each worth(1, 10000) : 17 16 17 16 17 16 16 IllegalState
             pay(0, -20); each worth(1, 10000) : -6 -5 -5 -6 -6 -5 -6 IllegalState
             """);
         edges.of(9, "Returns this, rounded", """
-            pay(1, 9); each worth(0, 20000) : 8 7 8 7 8 7 8 IllegalState; pay(1, -18); each worth(0, 20000) : -8 -7 -7 -8 -8 -7 -8 IllegalState
+            pay(1, 9); each worth(0, 20000) : 8 7 8 7 8 7 8 IllegalState; pay(1, -18)
+            each worth(0, 20000) : -8 -7 -7 -8 -8 -7 -8 IllegalState
             pay(1, 10); each worth(0, 10000) : 1 0 1 0 1 1 1 IllegalState
             """);
         edges.of(9, "Returns this, rounded", """
@@ -251,7 +257,8 @@ final class RowEdges {
             clearRow(); pay(0, -1); pay(40, 1469); signAt(20000) : -1; pay(40, 1); signAt(20000) : 1
             """);
         edges.of(10, "`points`", """
-            pay(0, -100000); pay(1, 119999); signAt(19998) : 1; signAt(19999) : 0; signAt(20000) : -1; pay(1, 1); signAt(19999) : 1; signAt(20000) : 0
+            pay(0, -100000); pay(1, 119999); signAt(19998) : 1; signAt(19999) : 0; signAt(20000) : -1; pay(1, 1); signAt(19999) : 1
+            signAt(20000) : 0
             pay(1, -20000); signAt(0) : 0; signAt(1) : -1; pay(1, 1); signAt(0) : 1; signAt(1) : 0
             """);
         edges.of(10, "Returns -1, 0 or 1", """
@@ -276,7 +283,8 @@ final class RowEdges {
             pay(35, 1); changes() : 3; pay(40, 1); changes() : 2; clearRow(); changes() : 0; pay(40, 5); changes() : 0
             """);
         edges.of(11, "Returns how often", """
-            payMany(0, 41, 1, 0); changes() : 0; payMany(0, 41, -2, 0); changes() : 0; payMany(0, 20, 2, 0); changes() : 1; pay(20, 1); changes() : 1
+            payMany(0, 41, 1, 0); changes() : 0; payMany(0, 41, -2, 0); changes() : 0; payMany(0, 20, 2, 0); changes() : 1
+            pay(20, 1); changes() : 1
             pay(19, -2); changes() : 1; pay(0, -1); changes() : 1; pay(0, -1); changes() : 2
             """);
         StringBuilder most = new StringBuilder();
@@ -298,8 +306,10 @@ final class RowEdges {
             """);
         edges.of(12, "Finds the least rate", """
             pay(39, -100); pay(40, 105); rowYield() : 5000; pay(0, -1); rowYield() : 2409; signAt(2408) : 1; signAt(2409) : -1
-            clearRow(); payMany(0, 40, -10^9, 0); pay(40, 10^9); rowYield() : 0; clearRow(); pay(0, -10^9); payMany(1, 40, 10^9, 0); rowYield() : NONE
-            clearRow(); pay(0, -10^9); payMany(1, 40, 25000000, 0); rowYield() : 0; pay(40, 1); rowYield() : 1; setMode(EXACT); rowYield() : 1
+            clearRow(); payMany(0, 40, -10^9, 0); pay(40, 10^9); rowYield() : 0; clearRow(); pay(0, -10^9); payMany(1, 40, 10^9, 0)
+            rowYield() : NONE
+            clearRow(); pay(0, -10^9); payMany(1, 40, 25000000, 0); rowYield() : 0; pay(40, 1); rowYield() : 1; setMode(EXACT)
+            rowYield() : 1
             """);
         edges.of(12, "Returns the rate in points", """
             pay(0, -100000); pay(1, 100000); rowYield() : 0; pay(1, -1); rowYield() : 0; pay(1, 2); rowYield() : 1
@@ -311,8 +321,10 @@ final class RowEdges {
 
     private static void refusesYields(Edges edges) {
         edges.of(12, "Throws `IllegalStateException`", """
-            rowYield() : IllegalState; pay(0, -5); rowYield() : IllegalState; pay(40, -5); rowYield() : IllegalState; pay(40, 10); rowYield() : 0
-            pay(20, 1); rowYield() : 501; pay(30, -1); rowYield() : IllegalState; pay(40, -6); rowYield() : IllegalState; pay(30, 1); rowYield() : IllegalState
+            rowYield() : IllegalState; pay(0, -5); rowYield() : IllegalState; pay(40, -5); rowYield() : IllegalState; pay(40, 10)
+            rowYield() : 0
+            pay(20, 1); rowYield() : 501; pay(30, -1); rowYield() : IllegalState; pay(40, -6); rowYield() : IllegalState; pay(30, 1)
+            rowYield() : IllegalState
             pay(40, 6); rowYield() : 501; clearRow(); rowYield() : IllegalState; payMany(0, 41, 10^9, 0); rowYield() : IllegalState
             """);
         edges.of(12, "Throws `IllegalStateException`", """
