@@ -278,10 +278,9 @@ public final class AnnuityHouse {
     }
 
     public float interestShare() {
-        if (loan.periods == 0) {
-            return 0.0f;
-        }
-        return (float) loan.sumOf(Loan.INTEREST) / (float) loan.sumOf(Loan.PAID);
+        // Of a loan something is always paid.
+        long paid = loan.sumOf(Loan.PAID);
+        return paid == 0 ? 0.0f : (float) loan.sumOf(Loan.INTEREST) / (float) paid;
     }
 
     /** The terms told last are worked out beside the loan, so that a refusal leaves the loan as it was. */
@@ -347,8 +346,8 @@ public final class AnnuityHouse {
         private int size = 0;
         private long top = 0;
 
+        /** There is always room for a long. */
         void set(long value) {
-            makeRoom(0);
             finish(0, value);
         }
 
