@@ -1,5 +1,6 @@
 import java.util.ArrayList;
 import java.util.List;
+import java.util.Locale;
 import java.util.function.Function;
 
 /**
@@ -42,6 +43,11 @@ public final class HalvesTest {
     private long any(long least, long greatest) {
         seed = seed * 6364136223846793005L + 1442695040888963407L;
         return least + (seed >>> 20) % (greatest - least + 1);
+    }
+
+    /** Digits are the same everywhere. */
+    private static String told(String pattern, Object... values) {
+        return String.format(Locale.ROOT, pattern, values);
     }
 
     private int rate() {
@@ -105,14 +111,14 @@ public final class HalvesTest {
     }
 
     private Run fraction() {
-        return new Run(List.of(), String.format("round(%d, %d, %d)", any(-60, 60), any(1, 80), any(0, 2)));
+        return new Run(List.of(), told("round(%d, %d, %d)", any(-60, 60), any(1, 80), any(0, 2)));
     }
 
     private Run nextToHalf() {
         long under = any(0, 1) == 0 ? any(499999999990L, 500000000000L) * 2 : any(100, 1000000) * 2;
         long halves = any(-1000, 1000) * 2 + 1;
         long over = under / 2 * halves + any(-1, 1);
-        return new Run(List.of(), String.format("round(%d, %d, 0)", Math.max(-1000000000000L, Math.min(1000000000000L, over)), under));
+        return new Run(List.of(), told("round(%d, %d, 0)", Math.max(-1000000000000L, Math.min(1000000000000L, over)), under));
     }
 
     /** Halves far ahead of a period or far behind it, and a cent far away that takes a little from them. */
@@ -128,28 +134,28 @@ public final class HalvesTest {
         }
         int period = (int) any(9, 31);
         List<String> first = new ArrayList<>();
-        first.add(String.format("pay(%d, %d)", isOn ? period - far : period + far, half / (half % 2 == 0 ? 2 : 1) * any(-4, 4)));
-        first.add(String.format("pay(%d, %d)", period, any(-30, 30)));
+        first.add(told("pay(%d, %d)", isOn ? period - far : period + far, half / (half % 2 == 0 ? 2 : 1) * any(-4, 4)));
+        first.add(told("pay(%d, %d)", period, any(-30, 30)));
         if (any(0, 2) == 0) {
-            first.add(String.format("pay(%d, %d)", isOn ? 40 : 0, any(-1, 1)));
+            first.add(told("pay(%d, %d)", isOn ? 40 : 0, any(-1, 1)));
         }
-        return new Run(first, String.format("worth(%d, %d)", period, points));
+        return new Run(first, told("worth(%d, %d)", period, points));
     }
 
     private Run lent() {
         int[] moneys = {105, 210, 5, 10, 50, 331, 655, 7, 12, 50000, 2100};
         long money = any(0, 1) == 0 ? any(1, 300) : moneys[(int) any(0, moneys.length - 1)] * any(1, 30);
-        return new Run(List.of(), String.format("lend(%d, %d, %d)", money, rate(), any(1, 4)));
+        return new Run(List.of(), told("lend(%d, %d, %d)", money, rate(), any(1, 4)));
     }
 
     private Run price() {
         long face = any(0, 60) * (any(0, 1) == 0 ? 1 : any(0, 1) == 0 ? 18 : 338);
-        return new Run(List.of(), String.format("price(%d, %d, %d, %d)", any(0, 1) == 0 ? 0 : any(0, 90), face, any(1, 3), rate()));
+        return new Run(List.of(), told("price(%d, %d, %d, %d)", any(0, 1) == 0 ? 0 : any(0, 90), face, any(1, 3), rate()));
     }
 
     private Run accrued() {
         long length = any(1, 366);
-        return new Run(List.of(), String.format("accrued(%d, %d, %d)", any(0, 1) == 0 ? any(0, 1000000000) : any(0, 400), any(0, length), length));
+        return new Run(List.of(), told("accrued(%d, %d, %d)", any(0, 1) == 0 ? any(0, 1000000000) : any(0, 400), any(0, length), length));
     }
 
     private List<String> lives() {
@@ -173,22 +179,22 @@ public final class HalvesTest {
 
     private Run insured(String call) {
         List<String> first = lives();
-        return new Run(first, String.format(call, any(0, first.size() - 1), insuredMoney(), lifeRate()));
+        return new Run(first, told(call, any(0, first.size() - 1), insuredMoney(), lifeRate()));
     }
 
     private Run reserve(boolean isBack) {
         List<String> first = lives();
         long age = any(0, first.size() - 1);
-        return new Run(first, String.format("reserve(%d, %d, %d, %d, %b)", age, any(0, first.size() - 1 - age), insuredMoney(), lifeRate(), isBack));
+        return new Run(first, told("reserve(%d, %d, %d, %d, %b)", age, any(0, first.size() - 1 - age), insuredMoney(), lifeRate(), isBack));
     }
 
     private Run tax() {
         List<String> first = new ArrayList<>();
         long from = any(0, 5);
         for (long steps = any(1, 8); steps > 0; steps--) {
-            first.add(String.format("step(%d, %d)", from, any(0, 1) == 0 ? any(0, 10) * 100 : any(0, 8) * 125));
+            first.add(told("step(%d, %d)", from, any(0, 1) == 0 ? any(0, 10) * 100 : any(0, 8) * 125));
             from += any(1, 40);
         }
-        return new Run(first, String.format("tax(%d)", any(0, 2) == 0 ? any(999999990000L, 1000000000000L) : any(0, 400)));
+        return new Run(first, told("tax(%d)", any(0, 2) == 0 ? any(999999990000L, 1000000000000L) : any(0, 400)));
     }
 }
